@@ -486,7 +486,7 @@ public final class WaxTurns {
             runAheadOnTrial(n);
             int goneCount = Integer.bitCount(ahead.goneBits);
             boolean better = goneCount < fewestGone;
-            if (better || goneCount == fewestGone && ahead.catchCount > mostCaught) {
+            if (better || (goneCount == fewestGone && ahead.catchCount > mostCaught)) {
                 fewestGone = goneCount;
                 mostCaught = ahead.catchCount;
                 best = 10 * trial.from[w] + trial.to[w];
@@ -816,7 +816,7 @@ public final class WaxTurns {
     }
 
     private static boolean hasBit(int bits, int i) {
-        return (bits >> i & 1) == 1;
+        return ((bits >> i) & 1) == 1;
     }
 
     private boolean hasGallery() {
@@ -1245,12 +1245,12 @@ public final class WaxTurns {
 
         private static boolean isHeardAt(int from, int watched) {
             // The bits of the PLACE below, the PLACE itself and the one above.
-            return (watched & 7 << from >> 1) != 0;
+            return (watched & ((7 << from) >> 1)) != 0;
         }
 
         /** The PART that a figure says in a minute of its TURN (the first one is 1), as a bit; 0 if it says none. */
         int partSaid(int f, int minuteOfTurn) {
-            return kinds[f] == SPEAKS && minuteOfTurn <= measures[f] ? 1 << minuteOfTurn - 1 : 0;
+            return kinds[f] == SPEAKS && minuteOfTurn <= measures[f] ? 1 << (minuteOfTurn - 1) : 0;
         }
     }
 
@@ -1359,7 +1359,7 @@ public final class WaxTurns {
         private void scanWord() {
             word = 0;
             while (behind < end && tape[behind] >= 'a' && tape[behind] <= 'z') {
-                word = word << 8 | tape[behind];
+                word = (word << 8) | tape[behind];
                 behind++;
             }
             token = behind - start <= MOST_LETTERS ? WORD : NO_TOKEN;
@@ -1380,7 +1380,7 @@ public final class WaxTurns {
             }
             long packed = 0;
             for (int i = 0; i < wanted.length(); i++) {
-                packed = packed << 8 | wanted.charAt(i);
+                packed = (packed << 8) | wanted.charAt(i);
             }
             return word == packed;
         }

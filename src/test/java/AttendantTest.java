@@ -138,6 +138,10 @@ public final class AttendantTest {
         anew.go(2);
         CHECK.taken(anew, "stairs()", anew.stairs(), 2);
         CHECK.taken(anew, "windBest(), its own turn from anew", anew.windBest(), 0);
+        // 260, 300, never, 280 minutes, and never by the others.
+        WaxTurns late = Check.with("gallery figures 7 span 20 stairs 5 shut 0;law times 2 plus 1 first 1;"
+            + "figure a is 0 walks 20");
+        CHECK.taken(late, "windBest(), never is more than 300", late.windBest(), 2);
         WaxTurns never = Check.with("gallery figures 3 span 1 stairs 2 shut 0;law times 1 plus 0 first 0;"
             + "figure a is 0 walks 1;figure b is 1 walks 1;watcher w from 0 to 0");
         CHECK.taken(never, "windBest(), the stiff one never", never.windBest(), 2);

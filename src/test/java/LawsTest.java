@@ -104,6 +104,10 @@ public final class LawsTest {
         CHECK.taken(x, "fits()", x.fits(), 9);
         CHECK.taken(x, "look()", x.look(), 7);
         CHECK.taken(x, "lookLeaves()", x.lookLeaves(), 3);
+        WaxTurns late = Check.with("gallery figures 7 span 13 stairs 0 shut 0;law times 1 plus 6 first 0;seen 6 at 104;"
+            + "seen 0 at 0");
+        CHECK.taken(late, "look(), the last TURN that begins ahead of minute 100", late.look(), 91);
+        CHECK.taken(late, "lookLeaves()", late.lookLeaves(), 1);
         // 0, 0: only plus 0 does, and nothing tells times.
         WaxTurns y = Check.with("gallery figures 3 span 7 stairs 0 shut 0;law times 0 plus 0 first 0;seen 0 at 6;"
             + "seen 0 at 7");

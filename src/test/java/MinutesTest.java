@@ -16,6 +16,7 @@ public final class MinutesTest {
         hearing();
         meeting();
         crowds();
+        lastMinutes();
         nothingChanges();
         CHECK.end();
     }
@@ -94,7 +95,6 @@ public final class MinutesTest {
         CHECK.due("go(1)", y.go(1), 2);
         CHECK.taken(y, "stairs()", y.stairs(), 3);
         CHECK.taken(y, "gone(3)", y.gone(3), 6);
-        // It is the 300th minute that is the last one.
         WaxTurns late = Check.with("gallery figures 2 span 20 stairs 1 shut 0;law times 0 plus 0 first 0;"
             + "figure a is 1 walks 20");
         CHECK.taken(late, "stairs(), never its turn", late.stairs(), -2);
@@ -247,6 +247,35 @@ public final class MinutesTest {
         CHECK.taken(two, "farthest(2)", two.farthest(2), 0);
         CHECK.taken(two, "gone(3)", two.gone(3), 16);
         CHECK.taken(two, "farthest(3), the gone, too", two.farthest(3), 4);
+    }
+
+    /** What is so in the 300th minute is told, what is so in the 301st is not. */
+    private static void lastMinutes() {
+        // The turns 1, 3, 0 go round; figure 0 steps at the end of each third one, five times.
+        WaxTurns x = Check.with("gallery figures 7 span 20 stairs 5 shut 0;law times 2 plus 1 first 1;"
+            + "figure a is 0 walks 20");
+        CHECK.taken(x, "stairs(), the 300th", x.stairs(), 300);
+        // Seven minutes a turn, its own each sixth, eight steps.
+        WaxTurns y = Check.with("gallery figures 9 span 7 stairs 8 shut 0;law times 2 plus 1 first 0;"
+            + "figure a is 0 walks 7");
+        CHECK.taken(y, "stairs(), the 301st", y.stairs(), -2);
+        y.go(1);
+        CHECK.taken(y, "stairs(), the 300th", y.stairs(), 300);
+        // It comes to 5 in minute 299, the watcher being at 6, and has its next turn from minute 340 on.
+        WaxTurns z = Check.with("gallery figures 7 span 20 stairs 6 shut 0;law times 2 plus 1 first 1;"
+            + "figure a is 0 walks 20;watcher w from 5 to 6");
+        z.go(40);
+        CHECK.taken(z, "meets(0), the 301st", z.meets(0), -2);
+        z.go(1);
+        CHECK.taken(z, "meets(0), the 300th", z.meets(0), 300);
+        WaxTurns s = Check.with("gallery figures 9 span 19 stairs 6 shut 0;law times 5 plus 6 first 5;"
+            + "figure s is 1 speaks 15;watcher a from 4 to 0");
+        CHECK.taken(s, "allIn(1), the 300th", s.allIn(1), 300);
+        WaxTurns t = Check.with("gallery figures 5 span 17 stairs 3 shut 0;law times 1 plus 1 first 3;"
+            + "figure s is 0 speaks 15;watcher a from 1 to 3");
+        CHECK.taken(t, "allIn(0), the 301st", t.allIn(0), -2);
+        t.go(1);
+        CHECK.taken(t, "allIn(0), the 300th", t.allIn(0), 300);
     }
 
     private static void nothingChanges() {

@@ -5,13 +5,14 @@ import java.util.Random;
 public final class ModelTest {
     private static final int RUNS = 400;
     private static final int CALLS = 480;
+    private static final int TEXT_RUNS = 60;
     private static final String[] WORDS = {"gallery", "figures", "span", "stairs", "shut", "law", "times", "plus",
         "first", "figure", "is", "walks", "speaks", "watcher", "from", "to", "seen", "at", ";", "a", "b", "abcdefgh",
         "abcdefghi", "0", "1", "2", "9", "10", "20", "21", "100", "101", "999", "1000", "007", "A", "\n", "-", " "};
 
     private final Random random;
-    private final WaxTurns x = new WaxTurns();
-    private final Model m = new Model();
+    private WaxTurns x = new WaxTurns();
+    private Model m = new Model();
     private int figures = 2;
 
     private ModelTest(long seed) {
@@ -19,7 +20,7 @@ public final class ModelTest {
     }
 
     public static void main(String[] args) {
-        int wrong = 0;
+        int wrong = texts();
         long calls = 0;
         for (int run = 0; run < RUNS && wrong < 20; run++) {
             ModelTest test = new ModelTest(run);
@@ -30,6 +31,31 @@ public final class ModelTest {
         if (wrong > 0) {
             System.exit(1);
         }
+    }
+
+    /** Texts broken by chance, and every beginning of a sound one. */
+    private static int texts() {
+        int wrong = 0;
+        for (int run = 0; run < TEXT_RUNS && wrong < 20; run++) {
+            ModelTest test = new ModelTest(1000 + run);
+            String whole = test.text();
+            for (int i = 0; i < 2 * whole.length() && wrong < 20; i++) {
+                if (i % 8 == 0) {
+                    // An object is promised for 512 calls, and a text takes up to 46.
+                    test.x = new WaxTurns();
+                    test.m = new Model();
+                }
+                String text = i < whole.length() ? whole.substring(0, i) : test.broken();
+                String answer = test.feed(text);
+                boolean same = test.x.fault() == test.m.fault() && test.x.where() == test.m.where();
+                if (!same || !answer.isEmpty()) {
+                    System.out.println("ModelTest: fault " + test.x.fault() + " at " + test.x.where() + ", due "
+                        + test.m.fault() + " at " + test.m.where() + " (" + answer + ") in: " + text);
+                    wrong++;
+                }
+            }
+        }
+        return wrong;
     }
 
     private int run(int run) {
@@ -129,6 +155,9 @@ public final class ModelTest {
 
     private void swapToken(StringBuilder s) {
         String[] tokens = s.toString().split(" ");
+        if (tokens.length == 0) {
+            return;
+        }
         int at = random.nextInt(tokens.length);
         tokens[at] = WORDS[random.nextInt(WORDS.length)];
         s.setLength(0);

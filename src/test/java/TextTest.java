@@ -139,6 +139,18 @@ public final class TextTest {
         faulty(SOUND + ";watcher a from 1 from 1", 1, 85);
         faulty(SOUND + ";seen 1 at 1000", 1, 78);
         faulty(SOUND + ";seen 1 1", 1, 75);
+        faulty(SOUND + ";seen", 1, 72);
+        faulty(SOUND + ";seen 1", 1, 74);
+        faulty(SOUND + ";seen 1 at", 1, 77);
+        faulty(SOUND + ";watcher", 1, 75);
+        faulty(SOUND + ";watcher a", 1, 77);
+        faulty(SOUND + ";watcher a from", 1, 82);
+        faulty(SOUND + ";watcher a from 1", 1, 84);
+        faulty(SOUND + ";watcher a from 1 to", 1, 87);
+        faulty(SOUND + ";figure", 1, 74);
+        faulty(SOUND + ";figure a", 1, 76);
+        faulty(SOUND + ";figure a is", 1, 79);
+        faulty(SOUND + ";figure a is 1", 1, 81);
     }
 
     private static void toldAgain() {
@@ -151,6 +163,8 @@ public final class TextTest {
         faulty(told + ";figure g is 1", 3, at + 12);
         faulty(told + ";seen 1 at 7;seen 1 at 007", 3, at + 22);
         faulty(told + ";law", 3, at);
+        faulty(NINE + ";watcher i", 3, NINE.length() + 9);
+        faulty(NINE + ";watcher x from 0 to 0;watcher y from 0 to 0;watcher y", 3, NINE.length() + 53);
         faulty(HALL + ";gallery", 3, 41);
         faulty(told + ";gallery figures 99", 3, at);
         faulty(told + ";figure ff is 2 walks 1;figure fff is 0 walks 1;figure ffff is 2", 3, at + 62);
