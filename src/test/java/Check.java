@@ -1,10 +1,13 @@
 import java.util.NoSuchElementException;
+import java.util.function.IntSupplier;
 
 /** What the tests share: feeding a text, and telling answers that are not the ones due. */
 final class Check {
     private final String name;
     private int right = 0;
     private int wrong = 0;
+    private String sentence = "";
+    private int lookedAtAhead = 0;
 
     Check(String name) {
         this.name = name;
@@ -16,7 +19,28 @@ final class Check {
             return;
         }
         wrong++;
-        System.out.println(name + ": " + call + " answered " + got + ", due is " + want);
+        System.out.println(name + ": " + sentence + call + " answered " + got + ", due is " + want);
+    }
+
+    /**
+     * What comes behind looks at a sentence of a promise (or of a section of Document): the quote must stand there,
+     * and at least one answer must be looked at behind each.
+     */
+    void sentence(int section, String quote) {
+        endSentence();
+        sentence = "[" + section + ": " + quote + "] ";
+        lookedAtAhead = right + wrong;
+        if (!Document.has(section, quote)) {
+            wrong++;
+            System.out.println(name + ": " + sentence + "is not what the document says");
+        }
+    }
+
+    private void endSentence() {
+        if (!sentence.isEmpty() && right + wrong == lookedAtAhead) {
+            wrong++;
+            System.out.println(name + ": " + sentence + "nothing was looked at");
+        }
     }
 
     void due(String call, boolean got, boolean want) {
@@ -33,6 +57,31 @@ final class Check {
     void taken(WaxTurns x, String call, long got, long want) {
         due(call, got, want);
         due("trouble() behind " + call, x.trouble(), 0);
+    }
+
+    /** A call is refused, by a number of TROUBLE, and nothing is otherwise behind it. */
+    void refusedWhole(WaxTurns x, String call, IntSupplier made, int trouble) {
+        String before = state(x);
+        refused(x, call, made.getAsInt(), trouble);
+        String behind = state(x);
+        due("that all stays as it was behind " + call + ": " + before + " and " + behind, behind.equals(before), true);
+    }
+
+    /** All that can be seen of an object NOW (some 17 calls, and 5 a figure). */
+    static String state(WaxTurns x) {
+        StringBuilder told = new StringBuilder();
+        for (int what = 0; what <= 13; what++) {
+            told.append(x.size(what)).append(' ');
+        }
+        told.append(x.alive()).append(' ').append(x.left()).append(' ').append(x.caught());
+        int figures = x.size(0);
+        for (int f = 0; f < figures; f++) {
+            told.append(';');
+            for (int what = 0; what <= 4; what++) {
+                told.append(x.figure(f, what)).append(' ');
+            }
+        }
+        return told.toString();
     }
 
     void dueLed(WaxTurns x, int i, int want) {
@@ -81,6 +130,7 @@ final class Check {
 
     /** Ends the test: exit code 1 if an answer was wrong, or if none was looked at. */
     void end() {
+        endSentence();
         System.out.println(name + ": " + right + " answers as due, " + wrong + " not");
         if (wrong > 0 || right == 0) {
             System.exit(1);
