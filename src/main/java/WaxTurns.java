@@ -1206,28 +1206,36 @@ public final class WaxTurns {
 
         void pass(Scene scene, Watchers rounds) {
             int f = scene.turn;
-            int watched = rounds.placesIn(scene.minute);
-            if (!scene.isGone(f)) {
-                if (kinds[f] == WALKS) {
-                    walk(scene, f, watched);
-                } else if (kinds[f] == SPEAKS && isHeardAt(scene.places[f], watched)) {
-                    scene.heardBits[f] |= partSaid(f, scene.spent + 1);
-                }
+            int minuteOfTurn = scene.spent + 1;
+            if (stepsIn(f, minuteOfTurn)) {
+                step(scene, f, rounds);
+            }
+            int part = partSaid(f, minuteOfTurn);
+            if (part != 0 && isHeardAt(scene.places[f], rounds.placesIn(scene.minute))) {
+                scene.heardBits[f] |= part;
             }
             scene.minute++;
-            scene.spent++;
-            if (scene.spent >= span) {
+            scene.spent = minuteOfTurn;
+            if (minuteOfTurn >= span) {
                 scene.startTurn(next(f));
             }
         }
 
-        private void walk(Scene scene, int f, int watched) {
+        /** Whether one that is not GONE steps in a minute of its TURN (the first one is 1). */
+        private boolean stepsIn(int f, int minuteOfTurn) {
+            if (!within(f, 0, MOST_FIGURES - 1) || kinds[f] != WALKS) {
+                return false;
+            }
             int pace = measures[f];
-            if (pace <= 0 || (scene.spent + 1) % pace != 0) {
+            return pace > 0 && minuteOfTurn % pace == 0;
+        }
+
+        private void step(Scene scene, int f, Watchers rounds) {
+            if (scene.isGone(f)) {
                 return;
             }
             int reached = nearer(scene.places[f]);
-            if (hasBit(watched, reached)) {
+            if (hasBit(rounds.placesIn(scene.minute), reached)) {
                 scene.catchCount++;
                 reached = f;
             } else if (reached == stairsPlace) {
@@ -1250,7 +1258,8 @@ public final class WaxTurns {
 
         /** The PART that a figure says in a minute of its TURN (the first one is 1), as a bit; 0 if it says none. */
         int partSaid(int f, int minuteOfTurn) {
-            return kinds[f] == SPEAKS && minuteOfTurn <= measures[f] ? 1 << (minuteOfTurn - 1) : 0;
+            boolean speaks = within(f, 0, MOST_FIGURES - 1) && kinds[f] == SPEAKS;
+            return speaks && minuteOfTurn <= measures[f] ? 1 << (minuteOfTurn - 1) : 0;
         }
     }
 

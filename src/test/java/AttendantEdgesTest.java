@@ -110,6 +110,10 @@ public final class AttendantEdgesTest {
         CHECK.taken(x, "guard(3), at 6", x.guard(3), 64);
         WaxTurns own = Check.with(law(3, 20, 1, "times 0 plus 1 first 1") + ";figure a is 1 walks 1");
         CHECK.taken(own, "guard(1), its OWN PLACE is the stairs", own.guard(1), 2);
+        WaxTurns first = Check.with(law(3, 20, 0, "times 0 plus 1 first 1") + ";figure a is 1 walks 1");
+        CHECK.taken(first, "guard(1), at the first PLACE", first.guard(1), 1);
+        WaxTurns last = Check.with(law(9, 20, 8, "times 0 plus 7 first 7") + ";figure a is 7 walks 1");
+        CHECK.taken(last, "guard(1), at the last PLACE", last.guard(1), 256);
         WaxTurns watched = Check.with(law(9, 20, 8, "times 0 plus 0 first 0") + ";figure a is 0 walks 1;"
             + "watcher w from 5 to 5");
         CHECK.taken(watched, "guard(60), a watcher does", watched.guard(60), 0);
@@ -173,6 +177,8 @@ public final class AttendantEdgesTest {
         CHECK.taken(last, "stand(60), likewise", last.stand(60), 7);
         WaxTurns first = Check.with(law(9, 1, 0, "times 0 plus 0 first 0"));
         CHECK.taken(first, "stand(1), from 0 and from 1", first.stand(1), 0);
+        WaxTurns middle = Check.with(law(3, 1, 0, "times 0 plus 2 first 2"));
+        CHECK.taken(middle, "stand(1), from 1 and from 2", middle.stand(1), 1);
         // It is gone at once: no PLACE is better than another.
         WaxTurns gone = Check.with(law(2, 1, 1, "times 0 plus 1 first 1") + ";figure a is 1 walks 1");
         CHECK.taken(gone, "stand(60), none is any good", gone.stand(60), 0);
@@ -233,6 +239,11 @@ public final class AttendantEdgesTest {
         WaxTurns edge = Check.with(law(3, 2, 1, "times 0 plus 1 first 1") + ";figure a is 1 walks 1;"
             + "watcher w from 1 to 0");
         CHECK.taken(edge, "windBest(), 4, 2, 4 minutes", edge.windBest(), 0);
+        // NOW, not a minute later: figure 0 steps to the stairs in its TURN, and he is there in odd minutes.
+        WaxTurns now = Check.with(law(3, 1, 1, "times 1 plus 1 first 2") + ";figure a is 0 walks 1;watcher w from 0 to 1");
+        CHECK.taken(now, "windBest(), 1, 3, 5 minutes", now.windBest(), 2);
+        now.go(1);
+        CHECK.taken(now, "windBest(), 4, 6, 2 minutes", now.windBest(), 1);
         CHECK.sentence(33, "NONE: 1 (no GALLERY).");
         WaxTurns none = new WaxTurns();
         CHECK.refused(none, "windBest()", none.windBest(), 1);

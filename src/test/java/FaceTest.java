@@ -54,6 +54,9 @@ public final class FaceTest {
             int modifiers = inside.getModifiers();
             check.due(inside + " is static", Modifier.isStatic(modifiers), true);
             check.due(inside + " is open", Modifier.isPublic(modifiers) || Modifier.isProtected(modifiers), false);
+            for (Method method : inside.getDeclaredMethods()) {
+                check.due(method + " bears a name of the face", names.contains(method.getName()), false);
+            }
         }
         check.due("NONE", WaxTurns.NONE, -1);
         check.end();

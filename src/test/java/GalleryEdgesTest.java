@@ -69,11 +69,13 @@ public final class GalleryEdgesTest {
         faulty(SOUND + ";watcher { from 0 to 0", 1, 76);
         faulty(SOUND + ";watcher a1 from 0 to 0", 1, 77);
         faulty(SOUND + ";watchera from 0 to 0", 1, 68);
+        faulty(SOUND + " abcdefghi seen 0 at 0", 1, 68);
         CHECK.sentence(TERMS, "WHOLES of 1 to 3 digits that do");
         sound("gallery figures 3 span 02 stairs 002 shut 100" + LAW, 3);
         faulty("gallery figures 0003", 1, 16);
         faulty("gallery figures 3333", 1, 16);
         faulty("gallery figures 3 span 2 stairs 0 shut 0100", 1, 39);
+        faulty(SOUND + " 1234 seen 0 at 0", 1, 68);
         faulty("gallery figures /", 1, 16);
         faulty("gallery figures :", 1, 16);
         faulty("gallery figures -3", 1, 16);
@@ -368,6 +370,10 @@ public final class GalleryEdgesTest {
         CHECK.refused(x, "gallery(1)", x.gallery(1), 2);
         CHECK.taken(x, "a second one takes its place", Check.tell(x, NINE), 9);
         CHECK.due("size(0)", x.size(0), 9);
+        cutOff("lawx", 3, 6, 0);
+        cutOff("gallery figures 20", 17, 1, 17);
+        cutOff("galleryfigures", 7, 1, 7);
+        nothingStays();
         CHECK.sentence(3, "(nothing to undo, no IMAGES): how many figures");
         WaxTurns y = Check.with(Galleries.THREE);
         y.go(2);
@@ -376,6 +382,7 @@ public final class GalleryEdgesTest {
         CHECK.due("size(10)", y.size(10), 0);
         CHECK.due("size(11)", y.size(11), 0);
         CHECK.due("size(12)", y.size(12), 0);
+        CHECK.due("caught()", y.caught(), 0);
         CHECK.due("undo()", y.undo(), false);
         CHECK.due("trouble()", y.trouble(), 6);
         CHECK.due("back(0)", y.back(0), false);
@@ -395,6 +402,35 @@ public final class GalleryEdgesTest {
         CHECK.due("size(13)", z.size(13), 0);
         CHECK.due("undo()", z.undo(), true);
         CHECK.due("back(0)", z.back(0), true);
+    }
+
+    /** Of a WORD or a WHOLE that goes on behind the n-th byte only what is ahead of it counts. */
+    private static void cutOff(String text, int n, int fault, int place) {
+        WaxTurns x = new WaxTurns();
+        Check.feedText(x, text);
+        CHECK.refused(x, "gallery(" + n + ") of " + text, x.gallery(n), 4);
+        CHECK.due("fault()", x.fault(), fault);
+        CHECK.due("where()", x.where(), place);
+    }
+
+    /** What texts told earlier, sound or not, is no part of a GALLERY that comes behind them. */
+    private static void nothingStays() {
+        String more = SOUND + ";figure a is 0 walks 3;figure b is 2 speaks 4;watcher c from 1 to 2;seen 1 at 7";
+        WaxTurns x = new WaxTurns();
+        Check.tell(x, more + ";");
+        for (int i = 0; i < 3; i++) {
+            CHECK.taken(x, "gallery, with all of it", Check.tell(x, more), 3);
+            Check.tell(x, more + ";");
+            CHECK.taken(x, "gallery, without it", Check.tell(x, SOUND), 3);
+            int[] due = {3, 2, 0, 0, 0, 0, 0, 0, 0, 0, 0, 0, 0, 0};
+            for (int what = 0; what < due.length; what++) {
+                CHECK.due("size(" + what + ")", x.size(what), due[what]);
+            }
+            for (int f = 0; f < 3; f++) {
+                CHECK.due("figure(" + f + ", 0)", x.figure(f, 0), 0);
+                CHECK.due("figure(" + f + ", 1)", x.figure(f, 1), 0);
+            }
+        }
     }
 
     private static void refusedByNumber() {

@@ -56,6 +56,8 @@ public final class LawsEdgesTest {
         WaxTurns turns = Check.with(THREE + ";seen 0 at 19;seen 1 at 20;seen 0 at 40");
         // 0, 1, 0: plus 1, and times less 1, by which 1 becomes 0.
         dueFits(turns, 210);
+        dueFits(Check.with(Galleries.FIVE), 120, 201, 333, 414);
+        dueFits(Check.with(NINE + ";seen 8 at 0;seen 0 at 20;seen 8 at 40"), 888);
         all.go(1);
         all.wind(0);
         CHECK.taken(all, "fits(), whatever has been wound up", all.fits(), 8);
@@ -79,6 +81,10 @@ public final class LawsEdgesTest {
         WaxTurns span = Check.with(THREE + ";seen 0 at 0");
         CHECK.taken(span, "look()", span.look(), 20);
         CHECK.taken(span, "lookLeaves()", span.lookLeaves(), 3);
+        // 81 laws with first 1: the second TURN tells each of nine sums apart, nine laws each.
+        WaxTurns nine = Check.with(NINE + ";seen 1 at 0");
+        CHECK.taken(nine, "look() of 81", nine.look(), 20);
+        CHECK.taken(nine, "lookLeaves() of 81", nine.lookLeaves(), 9);
         lookAt99();
     }
 
@@ -236,6 +242,8 @@ public final class LawsEdgesTest {
         Check.tell(no, TWO);
         CHECK.taken(no, "look(), a new GALLERY", no.look(), 0);
         CHECK.taken(no, "lookLeaves(), a new GALLERY", no.lookLeaves(), 4);
+        Check.tell(no, TWO);
+        CHECK.taken(no, "lookLeaves(), the same once more", no.lookLeaves(), 4);
         Check.tell(no, NO_FITS);
         CHECK.taken(no, "lookLeaves(), none again", no.lookLeaves(), -2);
     }
@@ -252,6 +260,9 @@ public final class LawsEdgesTest {
         WaxTurns three = Check.with("gallery figures 9 span 1 stairs 0 shut 0;law times 1 plus 3 first 0");
         CHECK.taken(three, "lawsLike(), 0, 3, 6", three.lawsLike(), 3);
         // 1, 2, 4, 0, 0 of 8: times 2 plus 0 alone goes so.
+        // 1 for ever: times and plus are 1 together, or 4.
+        WaxTurns fixed = Check.with("gallery figures 3 span 1 stairs 0 shut 0;law times 2 plus 2 first 1");
+        CHECK.taken(fixed, "lawsLike(), 0 and 1, 1 and 0, 2 and 2", fixed.lawsLike(), 3);
         WaxTurns late = Check.with("gallery figures 8 span 1 stairs 0 shut 0;law times 2 plus 0 first 1");
         CHECK.taken(late, "lawsLike(), for ever", late.lawsLike(), 1);
         zero.wind(3);
@@ -297,6 +308,11 @@ public final class LawsEdgesTest {
         judged(law + ";seen 1 at 20", -2);
         judged(law + ";seen 1 at 999;seen 0 at 980", 1);
         judged(law + ";seen 1 at 39;seen 0 at 40;seen 1 at 41", 2);
+        judged(law + ";seen 0 at 0;seen 0 at 1;seen 0 at 2;seen 0 at 3;seen 0 at 4;seen 0 at 5", -2);
+        String last = "gallery figures 9 span 1 stairs 0 shut 0;law times 7 plus 6 first 5";
+        judged(last, -2);
+        judged(last + ";seen 5 at 0;seen 5 at 1", -2);
+        judged(last + ";seen 5 at 0;seen 8 at 1", 1);
         // As told, not by minutes: the earlier minute is told later.
         judged(law + ";seen 0 at 480;seen 0 at 999;seen 1 at 0", 1);
         judged(law + ";seen 0 at 0;seen 0 at 1;seen 0 at 2;seen 0 at 3;seen 0 at 4;seen 1 at 5", 5);

@@ -74,6 +74,11 @@ public final class MinutesEdgesTest {
         x.go(1);
         CHECK.taken(x, "watch(0, 1) behind 1", x.watch(0, 1), 2);
         CHECK.taken(x, "watch(0, 300) behind 1", x.watch(0, 300), 1);
+        WaxTurns far = Check.with(Galleries.SPEAKER);
+        // At 0, 1, 2, 3, 2, 1 and round: minute 299 is the last of a round but one of six.
+        CHECK.taken(far, "watch(0, 1)", far.watch(0, 1), 0);
+        CHECK.taken(far, "watch(0, 4)", far.watch(0, 4), 3);
+        CHECK.taken(far, "watch(0, 300)", far.watch(0, 300), 1);
         CHECK.sentence(18, "NONE: 1; 2.");
         CHECK.refused(x, "watch(0, 0)", x.watch(0, 0), 2);
         CHECK.refused(x, "watch(1, 0), both", x.watch(1, 0), 1);
@@ -349,6 +354,10 @@ public final class MinutesEdgesTest {
         CHECK.taken(x, "spoken(1, 300)", x.spoken(1, 300), 1048575);
         CHECK.taken(x, "spoken(0, 300), stiff", x.spoken(0, 300), 0);
         CHECK.taken(x, "spoken(2, 300), it walks", x.spoken(2, 300), 0);
+        WaxTurns stiff = Check.with(alone(3, 3, 0, 1) + ";figure b is 2 walks 1");
+        CHECK.taken(stiff, "spoken(1, 300), stiff in its own TURN", stiff.spoken(1, 300), 0);
+        stiff.wind(2);
+        CHECK.taken(stiff, "spoken(2, 1), walking in its own TURN", stiff.spoken(2, 1), 0);
         x.go(19);
         CHECK.taken(x, "spoken(1, 1), the last of a TURN", x.spoken(1, 1), 524288);
         CHECK.taken(x, "spoken(1, 2), and the first of the next", x.spoken(1, 2), 524289);

@@ -1,3 +1,5 @@
+import java.util.function.LongSupplier;
+
 /** The boundaries that the terms (II, IV) and the promises 6 to 10 and 57 to 59 name, sentence by sentence. */
 public final class NowEdgesTest {
     private static final int TERMS = Document.TERMS;
@@ -208,7 +210,10 @@ public final class NowEdgesTest {
             heardBehind(speaker(0, place), 0, atTheEnd[place]);
             heardBehind(speaker(8, 8 - place), 0, atTheEnd[place]);
         }
-        // He is near in the second minute alone.
+        // He is near only when it has no PART left to say.
+        heardBehind(hall(9, 2, 0) + ";law times 1 plus 0 first 0;figure a is 0 speaks 1;watcher w from 2 to 1",
+            0, 0, 0, 0, 0, 0, 0);
+        // He is near in each second minute alone.
         heardBehind(hall(9, 9, 0) + ";law times 1 plus 0 first 0;figure a is 0 speaks 9;watcher w from 2 to 1",
             0, 0, 2, 2, 10, 10, 42);
     }
@@ -264,6 +269,7 @@ public final class NowEdgesTest {
         CHECK.due("undo()", x.undo(), false);
         CHECK.due("6", x.trouble(), 6);
         CHECK.taken(x, "alive()", x.alive(), 0);
+        eachTaken();
         CHECK.sentence(TERMS, "TROUBLE of the latest call that may be refused (those of which a number is told here)");
         CHECK.due("undo()", x.undo(), false);
         CHECK.due("feed()", x.feed(0, 0, 0, 0, 0), 20);
@@ -282,6 +288,27 @@ public final class NowEdgesTest {
         CHECK.due("trouble(), feed has no number", full.trouble(), 6);
         CHECK.sentence(TERMS, "`NONE = -1`: There is none; refused.");
         CHECK.due("NONE", WaxTurns.NONE, -1);
+    }
+
+    /** Behind a refused call each call that is taken makes TROUBLE 0, those that answer -2 too. */
+    private static void eachTaken() {
+        WaxTurns x = Check.with(Galleries.FIVE);
+        LongSupplier[] calls = {() -> x.figure(0, 0), () -> x.watcher(0, 0), x::alive, x::left, x::caught,
+            () -> x.turnOf(0), () -> x.turnIn(0), x::settles, x::round, x::called, () -> x.minutesOf(0, 0),
+            () -> x.place(0, 0), () -> x.watch(0, 1), () -> x.gone(0), x::stairs, () -> x.catches(0),
+            () -> x.heard(0, 0), () -> x.allIn(0), () -> x.meets(0), () -> x.crowd(0), () -> x.farthest(0),
+            () -> x.nearBy(0, 0), () -> x.spoken(0, 0), () -> x.route(0, 1), () -> x.routeAt(0, 1, 1),
+            () -> x.stand(1), () -> x.guard(1), x::windBest, () -> x.patrol(0, 1), x::fits, () -> x.fitAt(0),
+            () -> x.could(0), () -> x.aliveBy(0, 0), x::look, x::lookLeaves, x::lawsLike, () -> x.lawFor(0, 0),
+            x::judge, () -> x.dares(0, true, true, true), () -> x.rests(0), () -> x.rest(0),
+            () -> x.odds(0, 0, true), () -> x.mean(0, 0, true), () -> x.drawn(0, 0, 0), () -> x.firstShut(0, 0),
+            x::image, () -> x.back(0) ? 1 : 0, () -> x.wind(1), () -> x.go(8), () -> x.put(1), () -> x.undo() ? 1 : 0};
+        for (int i = 0; i < calls.length; i++) {
+            x.figure(9, 9);
+            CHECK.due("trouble() ahead of call " + i, x.trouble(), 1);
+            long answer = calls[i].getAsLong();
+            CHECK.due("trouble() behind call " + i + ", which answered " + answer, x.trouble(), 0);
+        }
     }
 
     // ---- promises 6 to 10
@@ -344,6 +371,8 @@ public final class NowEdgesTest {
         x.go(8);
         for (int w = 0; w < 3; w++) {
             CHECK.taken(x, "watcher(" + w + ", 2) behind 8", x.watcher(w, 2), told[w][1]);
+            CHECK.taken(x, "watcher(" + w + ", 0) stays", x.watcher(w, 0), told[w][0]);
+            CHECK.taken(x, "watcher(" + w + ", 1) stays", x.watcher(w, 1), told[w][1]);
         }
         x.go(1);
         CHECK.taken(x, "watcher(0, 2) behind 9", x.watcher(0, 2), 1);
