@@ -165,6 +165,10 @@ public final class AttendantEdgesTest {
         CHECK.refused(x, "routeAt(0, 61, 61)", x.routeAt(0, 61, 61), 2);
         CHECK.refused(x, "routeAt(0, 2147483647, 1)", x.routeAt(0, Integer.MAX_VALUE, 1), 2);
         CHECK.refused(x, "routeAt(0, 61, 62), both", x.routeAt(0, 61, 62), 1);
+        // For no minutes there is no i-th one either: both, so 1 goes ahead, as everywhere.
+        CHECK.refused(x, "routeAt(0, 0, 1), both", x.routeAt(0, 0, 1), 1);
+        CHECK.refused(x, "routeAt(0, 0, 0), both", x.routeAt(0, 0, 0), 1);
+        CHECK.refused(x, "routeAt(0, -1, 1), both", x.routeAt(0, -1, 1), 1);
         WaxTurns none = new WaxTurns();
         CHECK.refused(none, "routeAt(0, 1, 1)", none.routeAt(0, 1, 1), 1);
         CHECK.refused(none, "routeAt(0, 61, 1)", none.routeAt(0, 61, 1), 1);

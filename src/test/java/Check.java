@@ -11,6 +11,22 @@ final class Check {
 
     Check(String name) {
         this.name = name;
+        endInTime(name);
+    }
+
+    /** A call that doesn't end is a fault as well: behind two minutes the test fails. */
+    static void endInTime(String name) {
+        Thread watch = new Thread(() -> {
+            try {
+                Thread.sleep(120_000);
+            } catch (InterruptedException e) {
+                return;
+            }
+            System.out.println(name + ": a call does not end");
+            Runtime.getRuntime().halt(1);
+        });
+        watch.setDaemon(true);
+        watch.start();
     }
 
     void due(String call, long got, long want) {

@@ -20,6 +20,7 @@ public final class ModelTest {
     }
 
     public static void main(String[] args) {
+        Check.endInTime("ModelTest");
         int wrong = texts();
         long calls = 0;
         for (int run = 0; run < RUNS && wrong < 20; run++) {
