@@ -272,7 +272,7 @@ public final class WaxTurns {
         if (!hasGallery()) {
             return refused(NO_SUCH);
         }
-        runAhead(0);
+        ahead.copyFrom(now);
         return answered(minutesTillGone(hall.watchers, FAR));
     }
 
@@ -290,7 +290,7 @@ public final class WaxTurns {
         if (number != 0) {
             return refused(number);
         }
-        runAhead(0);
+        ahead.copyFrom(now);
         // What ACTS let hear does not count here, though the scene carries it.
         ahead.heardBits[f] = 0;
         passAhead(n);
@@ -305,7 +305,7 @@ public final class WaxTurns {
             return answered(NEVER);
         }
         int all = (1 << hall.measures[f]) - 1;
-        runAhead(0);
+        ahead.copyFrom(now);
         int minutes = 0;
         while (minutes < FAR && ahead.heardBits[f] != all) {
             hall.pass(ahead, hall.watchers);
@@ -318,7 +318,7 @@ public final class WaxTurns {
         if (!isWatcher(w)) {
             return refused(NO_SUCH);
         }
-        runAhead(0);
+        ahead.copyFrom(now);
         for (int i = 1; i <= FAR; i++) {
             int watcherPlace = hall.watchers.placeOf(w, ahead.minute);
             if (watcherPlace == placeOfActing()) {
@@ -363,7 +363,7 @@ public final class WaxTurns {
         if (number != 0) {
             return refused(number);
         }
-        runAhead(0);
+        ahead.copyFrom(now);
         int count = 0;
         for (int i = 0; i < n; i++) {
             int watched = hall.watchers.placesIn(ahead.minute);
@@ -380,7 +380,7 @@ public final class WaxTurns {
         if (number != 0) {
             return refused(number);
         }
-        runAhead(0);
+        ahead.copyFrom(now);
         int bits = 0;
         for (int i = 0; i < n; i++) {
             if (ahead.turn == f) {
@@ -455,7 +455,7 @@ public final class WaxTurns {
         int best = 0;
         int longest = NONE;
         for (int f = 0; f < hall.figures; f++) {
-            runAhead(0);
+            ahead.copyFrom(now);
             ahead.startTurn(f);
             int minutes = minutesTillGone(hall.watchers, FAR);
             if (minutes == NEVER) {
@@ -930,7 +930,7 @@ public final class WaxTurns {
     }
 
     private void planRoutes(int n) {
-        runAhead(0);
+        ahead.copyFrom(now);
         for (int i = 1; i <= n; i++) {
             routes.aim(i, placeOfActing());
         }
@@ -939,7 +939,7 @@ public final class WaxTurns {
 
     private boolean postsHold(int posts, int n) {
         trial.posts = posts;
-        runAhead(0);
+        ahead.copyFrom(now);
         return minutesTillGone(trial, n) == NEVER;
     }
 
@@ -1073,13 +1073,14 @@ public final class WaxTurns {
         }
 
         int placeOf(int w, int minute) {
-            int way = Math.abs(to[w] - from[w]);
-            if (way == 0) {
+            boolean upwards = to[w] > from[w];
+            int way = upwards ? to[w] - from[w] : from[w] - to[w];
+            if (way <= 0) {
                 return from[w];
             }
             int gone = minute % (2 * way);
             int off = gone <= way ? gone : 2 * way - gone;
-            return to[w] > from[w] ? from[w] + off : from[w] - off;
+            return upwards ? from[w] + off : from[w] - off;
         }
 
         int placesIn(int minute) {
